@@ -807,6 +807,7 @@ public final class PromisesTest {
         due("31: alike", well.alike(0, 1), 3);
         due("31: the first behind them", well.left(0), 1);
         due("31: the other behind them", well.left(1), 1);
+        due("31: both have counted them", well.isTrue(), true);
         well.skip(0, 1);
         well.skip(1, 1);
         due("31: the first is marked there", well.back(0), 1);
@@ -854,7 +855,9 @@ public final class PromisesTest {
     private static void promise33() {
         Bytewell well = new Bytewell();
         refused("33: none has bytes", well, NO_SHARE, well::meanSize);
-        gathered(well, 0, 3);
+        gathered(well, 0, 1);
+        due("33: of one byte", well.meanSize(), 1.0);
+        gathered(well, 0, 2);
         due("33: of one", well.meanSize(), 3.0);
         gathered(well, 2, 4);
         due("33: of two", well.meanSize(), 3.5);
