@@ -54,7 +54,7 @@ public final class JavaIoTest {
             int[] told = arguments(kind);
             Object got = Check.outcome(() -> askWell(well, kind, told));
             Object want = Check.outcome(() -> model.ask(kind, told));
-            // Only what is wrong is told by Check, so the text is made only then.
+            // A run ends with its first wrong answer: those behind it only follow from it.
             if (!Objects.equals(got, want)) {
                 Check.due("run " + run + " call " + call + " kind " + kind + Arrays.toString(told), got, want);
                 return;
