@@ -1,9 +1,22 @@
+import java.lang.reflect.InvocationTargetException;
+import java.lang.reflect.Method;
+import java.util.Arrays;
+import java.util.Comparator;
 import java.util.Objects;
 
 /** Counts the answers that are not the ones that are due. */
 final class Check {
     interface Call {
         Object answer();
+    }
+
+    /** Makes the same well each time. */
+    interface Maker {
+        Well make();
+    }
+
+    interface Use {
+        Object of(Well well);
     }
 
     // The first ones tell enough; a broken class can give thousands.
@@ -32,26 +45,111 @@ final class Check {
         }
     }
 
-    /** The call must throw just this, and leave all that can be asked of the well as it was. */
-    static void refused(String what, Bytewell well, Class<? extends RuntimeException> want, Call call) {
-        String before = stateOf(well);
+    static void dueThrown(String what, Class<? extends RuntimeException> want, Call call) {
         due(what, outcome(call), "throws." + want.getSimpleName());
-        due(what + ", the state after it,", stateOf(well), before);
     }
 
-    static String stateOf(Bytewell well) {
-        StringBuilder state = new StringBuilder();
+    /** The call must throw just this, and leave a well of which all answers what it does without the call. */
+    static void refused(String what, Maker maker, Class<? extends RuntimeException> want, Use use) {
+        Well well = maker.make();
+        dueThrown(what, want, () -> use.of(well));
+        due(what + ", all of the well after it,", allOf(well), allOf(maker.make()));
+    }
+
+    /** The call must answer just this, and leave a well of which all answers what it does without the call. */
+    static void changesNothing(String what, Maker maker, Object want, Use use) {
+        Well well = maker.make();
+        due(what, outcome(() -> use.of(well)), want);
+        due(what + ", all of the well after it,", allOf(well), allOf(maker.make()));
+    }
+
+    /** All that can be asked of a well, which is used up by it. It takes some 130 calls. */
+    static String allOf(Well well) {
+        StringBuilder told = new StringBuilder();
+        told.append("sum ").append(well.checksum()).append(" true ").append(well.isTrue());
         for (int row = 0; row < 4; row++) {
-            state.append(" row");
-            for (int i = 0; i < well.length(row); i++) {
-                state.append(' ').append(well.get(row, i));
-            }
+            told.append(" length ").append(well.length(row));
         }
         for (int i = 0; i < 3; i++) {
-            state.append(" size ").append(well.size(i));
-            state.append(well.isOpen(i) ? " left " + well.left(i) : " shut");
+            told.append(" size ").append(well.size(i));
         }
-        return state.append(" sum ").append(well.checksum()).toString();
+        for (int reader = 0; reader < 3; reader++) {
+            told.append(" reader ").append(reader).append(readerOf(well, reader));
+        }
+        told.append(sharingOf(well));
+        for (int row = 0; row < 4; row++) {
+            well.fill(row, 0, well.length(row), 60 * row, 1);
+            told.append(" filled ").append(row);
+            for (int reader = 0; reader < 2; reader++) {
+                told.append(' ').append(aheadOf(well, reader));
+            }
+        }
+        return told.toString();
+    }
+
+    /** What is ahead of it, then from its mark on, and which rows are its array. */
+    private static String readerOf(Well well, int reader) {
+        if (!well.isOpen(reader)) {
+            return " shut";
+        }
+        StringBuilder told = new StringBuilder(" left ").append(well.left(reader));
+        for (int row = 0; row < 4; row++) {
+            int here = row;
+            told.append(' ').append(outcome(() -> well.readFull(reader, here, 0, 0)));
+        }
+        return told.append(' ').append(aheadOf(well, reader)).append(' ').append(aheadOf(well, reader)).toString();
+    }
+
+    /** The reader is at its mark then, and gatherer 0 has what was ahead of it. */
+    private static String aheadOf(Well well, int reader) {
+        if (!well.isOpen(reader)) {
+            return "shut";
+        }
+        well.empty(0);
+        return "ahead " + well.pour(reader, 0) + " sum " + well.checksum() + " back " + well.back(reader);
+    }
+
+    /** Which rows are the very same array. Reader 2 is open then. */
+    private static String sharingOf(Well well) {
+        StringBuilder told = new StringBuilder(" sharing");
+        for (int row = 0; row < 4; row++) {
+            well.open(2, row);
+            for (int other = 0; other < row; other++) {
+                int here = other;
+                told.append(' ').append(outcome(() -> well.readFull(2, here, 0, 0)));
+            }
+        }
+        return told.toString();
+    }
+
+    /** Runs each method of a test that is named after a promise or after the terms, and ends the program. */
+    static void runAll(Class<?> test) {
+        Method[] methods = test.getDeclaredMethods();
+        Arrays.sort(methods, Comparator.comparing(Method::getName));
+        int ran = 0;
+        for (Method method : methods) {
+            if (method.getName().startsWith("promise") || method.getName().startsWith("terms")) {
+                ran++;
+                run(method);
+            }
+        }
+        due("is there a test in " + test.getName(), ran > 0, true);
+        System.out.println(ran + " tests");
+        finish();
+    }
+
+    private static void run(Method method) {
+        int before = wrong;
+        try {
+            method.invoke(null);
+        } catch (InvocationTargetException thrown) {
+            due(method.getName(), "throws " + thrown.getCause(), "an end");
+        } catch (IllegalAccessException never) {
+            throw new AssertionError(never);
+        }
+        if (wrong > before) {
+            System.out.println("FAILED: " + method.getName());
+        }
     }
 
     static void finish() {

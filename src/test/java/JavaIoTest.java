@@ -8,7 +8,8 @@ import java.util.Objects;
 /** Long runs of calls, each answered by a Bytewell and by the classes of java.io that it is told after. */
 public final class JavaIoTest {
     private static final int RUNS = 600;
-    private static final int CALLS = 512;
+    // The last call of a well is for the checksum.
+    private static final int CALLS = Well.MOST_CALLS - 1;
     private static final int KINDS = 34;
 
     private long seed;
@@ -47,7 +48,7 @@ public final class JavaIoTest {
     }
 
     private void run(int run) {
-        Bytewell well = new Bytewell();
+        Well well = new Well();
         Model model = new Model();
         for (int call = 0; call < CALLS; call++) {
             int kind = below(KINDS);
@@ -71,7 +72,7 @@ public final class JavaIoTest {
         return new int[] {first, second, amount(), amount(), number()};
     }
 
-    private static Object askWell(Bytewell well, int kind, int[] a) {
+    private static Object askWell(Well well, int kind, int[] a) {
         switch (kind) {
             case 0: return well.make(a[0], a[2]);
             case 1: return well.lend(a[0], a[1]);

@@ -67,19 +67,22 @@ public final class PromisesTest {
         Check.due(what, got, want);
     }
 
-    private static void refused(String what, Bytewell well, Class<? extends RuntimeException> want,
+    /** Only the checksum is held against the one before: the tests of the edges ask for all of the well. */
+    private static void refused(String what, Well well, Class<? extends RuntimeException> want,
             Check.Call call) {
-        Check.refused(what, well, want, call);
+        long before = well.checksum();
+        Check.dueThrown(what, want, call);
+        due(what + ", the checksum after it,", well.checksum(), before);
     }
 
-    private static void set(Bytewell well, int row, int... bytes) {
+    private static void set(Well well, int row, int... bytes) {
         well.make(row, bytes.length);
         for (int i = 0; i < bytes.length; i++) {
             well.put(row, i, bytes[i]);
         }
     }
 
-    private static void dueRow(String what, Bytewell well, int row, int... want) {
+    private static void dueRow(String what, Well well, int row, int... want) {
         StringBuilder got = new StringBuilder();
         for (int i = 0; i < well.length(row); i++) {
             got.append(' ').append(well.get(row, i));
@@ -92,30 +95,35 @@ public final class PromisesTest {
     }
 
     /** Takes what the gatherer has into row 3, which the tests keep free for it. */
-    private static void dueGatherer(String what, Bytewell well, int gatherer, int... want) {
+    private static void dueGatherer(String what, Well well, int gatherer, int... want) {
         due(what + ", its size", well.size(gatherer), want.length);
         well.take(gatherer, 3);
         dueRow(what, well, 3, want);
     }
 
     /** Row 0 is 1, 2, 3, 4, 5, and reader 0 is at its begin. */
-    private static Bytewell fiveOpen() {
-        Bytewell well = new Bytewell();
+    private static Well fiveOpen() {
+        Well well = new Well();
         set(well, 0, 1, 2, 3, 4, 5);
         well.open(0, 0);
         return well;
     }
 
-    private static void gathered(Bytewell well, int gatherer, int many) {
-        for (int i = 0; i < many; i++) {
-            well.write(gatherer, i);
+    /** Writes 0, 1, 2 and so on, by fours where it can, since a well has 512 calls only. */
+    private static void gathered(Well well, int gatherer, int many) {
+        int next = 0;
+        for (; next + 4 <= many; next += 4) {
+            well.writeNumber(gatherer, 0x00010203 + next * 0x01010101);
+        }
+        for (; next < many; next++) {
+            well.write(gatherer, next);
         }
     }
 
     // Promises
 
     private static void promise1() {
-        Bytewell well = new Bytewell();
+        Well well = new Well();
         for (int row = 0; row < 4; row++) {
             due("1: length of row " + row, well.length(row), 0);
         }
@@ -127,11 +135,11 @@ public final class PromisesTest {
         well.open(0, 0);
         due("1: the empty rows are arrays of their own", well.readFull(0, 1, 0, 0), 0);
         set(well, 0, 9);
-        due("1: a second well is another one", new Bytewell().length(0), 0);
+        due("1: a second well is another one", new Well().length(0), 0);
     }
 
     private static void promise2() {
-        Bytewell well = new Bytewell();
+        Well well = new Well();
         for (int row = 0; row < 4; row++) {
             due("2: make row " + row, well.make(row, 5 + row), 0);
             due("2: then it is that long", well.length(row), 5 + row);
@@ -158,7 +166,7 @@ public final class PromisesTest {
     }
 
     private static void promise3() {
-        Bytewell well = new Bytewell();
+        Well well = new Well();
         set(well, 0, 1, 2, 3);
         set(well, 3, 7);
         due("3: lend answers how long the one was that gets it", well.lend(0, 3), 1);
@@ -181,7 +189,7 @@ public final class PromisesTest {
     }
 
     private static void promise4() {
-        Bytewell well = new Bytewell();
+        Well well = new Well();
         well.make(1, 9);
         well.make(3, 256);
         due("4: length 0", well.length(0), 0);
@@ -193,7 +201,7 @@ public final class PromisesTest {
     }
 
     private static void promise5() {
-        Bytewell well = new Bytewell();
+        Well well = new Well();
         set(well, 2, 127, 128, 255, 0);
         due("5: get 0", well.get(2, 0), 127);
         due("5: get 1", well.get(2, 1), -128);
@@ -209,7 +217,7 @@ public final class PromisesTest {
     }
 
     private static void promise6() {
-        Bytewell well = new Bytewell();
+        Well well = new Well();
         well.make(1, 2);
         due("6: put answers what was there", well.put(1, 0, 300), 0);
         due("6: the lowest 8 bits", well.put(1, 0, -1), 44);
@@ -227,7 +235,7 @@ public final class PromisesTest {
     }
 
     private static void promise7() {
-        Bytewell well = new Bytewell();
+        Well well = new Well();
         well.make(0, 5);
         due("7: fill", well.fill(0, 1, 3, 120, 5), 0);
         dueRow("7: the filled", well, 0, 0, 120, 125, -126, 0);
@@ -254,7 +262,7 @@ public final class PromisesTest {
     }
 
     private static void promise8() {
-        Bytewell well = new Bytewell();
+        Well well = new Well();
         set(well, 0, 1, 2, 3);
         set(well, 1, 1, 2, 3);
         set(well, 2, 1, 2, 3, 0);
@@ -278,7 +286,7 @@ public final class PromisesTest {
     }
 
     private static void promise9() {
-        Bytewell well = new Bytewell();
+        Well well = new Well();
         due("9: write", well.write(1, 300), 1);
         due("9: write again", well.write(1, -1), 2);
         due("9: write the least", well.write(1, MIN + 128), 3);
@@ -294,7 +302,7 @@ public final class PromisesTest {
     }
 
     private static void promise10() {
-        Bytewell well = new Bytewell();
+        Well well = new Well();
         set(well, 0, 1, -2, 3, -4, 5);
         due("10: writePart", well.writePart(0, 0, 1, 3), 3);
         due("10: and behind it", well.writePart(0, 0, 4, 1), 4);
@@ -322,7 +330,7 @@ public final class PromisesTest {
     }
 
     private static void promise11() {
-        Bytewell well = new Bytewell();
+        Well well = new Well();
         set(well, 0, 1, -2, 3);
         due("11: writeRow", well.writeRow(2, 0), 3);
         due("11: again", well.writeRow(2, 0), 6);
@@ -344,7 +352,7 @@ public final class PromisesTest {
     }
 
     private static void promise12() {
-        Bytewell well = new Bytewell();
+        Well well = new Well();
         due("12: writeNumber", well.writeNumber(0, 66051), 4);
         due("12: again", well.writeNumber(0, 0x80FF7F01), 8);
         due("12: a negative one", well.writeNumber(0, -2), 12);
@@ -359,7 +367,7 @@ public final class PromisesTest {
     }
 
     private static void promise13() {
-        Bytewell well = new Bytewell();
+        Well well = new Well();
         gathered(well, 0, 3);
         gathered(well, 2, 256);
         due("13: size 0", well.size(0), 3);
@@ -371,7 +379,7 @@ public final class PromisesTest {
     }
 
     private static void promise14() {
-        Bytewell well = new Bytewell();
+        Well well = new Well();
         gathered(well, 0, 256);
         gathered(well, 1, 2);
         well.take(1, 0);
@@ -390,7 +398,7 @@ public final class PromisesTest {
     }
 
     private static void promise15() {
-        Bytewell well = new Bytewell();
+        Well well = new Well();
         gathered(well, 0, 3);
         set(well, 1, 8, 8);
         well.open(0, 1);
@@ -417,7 +425,7 @@ public final class PromisesTest {
     }
 
     private static void promise16() {
-        Bytewell well = new Bytewell();
+        Well well = new Well();
         set(well, 0, 1, 2, 3);
         due("16: open", well.open(2, 0), 3);
         due("16: the others stay shut", well.isOpen(0) || well.isOpen(1), false);
@@ -442,7 +450,7 @@ public final class PromisesTest {
     }
 
     private static void promise17() {
-        Bytewell well = new Bytewell();
+        Well well = new Well();
         well.open(1, 0);
         due("17: one that was opened on an empty row", well.isOpen(1), true);
         due("17: one that was not", well.isOpen(0), false);
@@ -455,7 +463,7 @@ public final class PromisesTest {
     }
 
     private static void promise18() {
-        Bytewell well = new Bytewell();
+        Well well = new Well();
         set(well, 0, 127, 128, 255, 0);
         well.open(0, 0);
         due("18: read", well.read(0), 127);
@@ -473,7 +481,7 @@ public final class PromisesTest {
     }
 
     private static void promise19() {
-        Bytewell well = fiveOpen();
+        Well well = fiveOpen();
         well.make(1, 5);
         due("19: readPart", well.readPart(0, 1, 1, 2), 2);
         dueRow("19: what was read", well, 1, 0, 1, 2, 0, 0);
@@ -500,7 +508,7 @@ public final class PromisesTest {
     }
 
     private static void promise19OfItsOwnArray() {
-        Bytewell well = fiveOpen();
+        Well well = fiveOpen();
         due("19: into its own array", well.readPart(0, 0, 2, 3), 3);
         dueRow("19: as if put beside first", well, 0, 1, 2, 1, 2, 3);
         due("19: what is put ahead is read", well.read(0), 2);
@@ -511,7 +519,7 @@ public final class PromisesTest {
     }
 
     private static void promise20() {
-        Bytewell well = fiveOpen();
+        Well well = fiveOpen();
         well.make(1, 5);
         due("20: readFull", well.readFull(0, 1, 1, 2), 2);
         dueRow("20: what was read", well, 1, 0, 1, 2, 0, 0);
@@ -548,7 +556,7 @@ public final class PromisesTest {
     }
 
     private static void promise21() {
-        Bytewell well = fiveOpen();
+        Well well = fiveOpen();
         well.lend(0, 2);
         due("21: readSome", well.readSome(0, 1, 2), 2);
         dueRow("21: what was read", well, 1, 1, 2);
@@ -578,7 +586,7 @@ public final class PromisesTest {
     }
 
     private static void promise22() {
-        Bytewell well = new Bytewell();
+        Well well = new Well();
         set(well, 0, 0, 1, 2, 3, 0x80, 255, 127, 254, 9, 9, 9);
         well.open(0, 0);
         due("22: readNumber", well.readNumber(0), 66051);
@@ -599,7 +607,7 @@ public final class PromisesTest {
     }
 
     private static void promise23() {
-        Bytewell well = new Bytewell();
+        Well well = new Well();
         set(well, 0, 65, -66, 10, 10, 67, 10, 13, 68);
         well.open(0, 0);
         due("23: readLine", well.readLine(0, 1), 2);
@@ -629,7 +637,7 @@ public final class PromisesTest {
     }
 
     private static void promise24() {
-        Bytewell well = new Bytewell();
+        Well well = new Well();
         set(well, 0, 7, 255, 7, 0, 128, 9);
         well.open(0, 0);
         due("24: find the next", well.find(0, 7), 1);
@@ -656,7 +664,7 @@ public final class PromisesTest {
     }
 
     private static void promise25() {
-        Bytewell well = fiveOpen();
+        Well well = fiveOpen();
         due("25: skip", well.skip(0, 2), 2L);
         due("25: the next one", well.read(0), 3);
         due("25: none wanted", well.skip(0, 0), 0L);
@@ -677,7 +685,7 @@ public final class PromisesTest {
     }
 
     private static void promise26() {
-        Bytewell well = fiveOpen();
+        Well well = fiveOpen();
         due("26: left", well.left(0), 5);
         well.read(0);
         due("26: left of four", well.left(0), 4);
@@ -692,7 +700,7 @@ public final class PromisesTest {
     }
 
     private static void promise27() {
-        Bytewell well = fiveOpen();
+        Well well = fiveOpen();
         for (int limit : new int[] {0, 1, -3, MIN, MAX}) {
             well.open(0, 0);
             well.read(0);
@@ -714,7 +722,7 @@ public final class PromisesTest {
     }
 
     private static void promise28() {
-        Bytewell well = fiveOpen();
+        Well well = fiveOpen();
         well.skip(0, 4);
         due("28: back to its begin", well.back(0), 5);
         due("28: and again", well.back(0), 5);
@@ -734,7 +742,7 @@ public final class PromisesTest {
     }
 
     private static void promise29() {
-        Bytewell well = fiveOpen();
+        Well well = fiveOpen();
         well.write(1, -9);
         well.read(0);
         due("29: pour", well.pour(0, 1), 4);
@@ -760,7 +768,7 @@ public final class PromisesTest {
     }
 
     private static void promise30() {
-        Bytewell well = fiveOpen();
+        Well well = fiveOpen();
         due("30: pourParts", well.pourParts(0, 0, 2), 3);
         dueGatherer("30: the same as at once", well, 0, 1, 2, 3, 4, 5);
         due("30: none is left", well.left(0), 0);
@@ -795,7 +803,7 @@ public final class PromisesTest {
     }
 
     private static void promise31() {
-        Bytewell well = new Bytewell();
+        Well well = new Well();
         set(well, 0, 1, 2, 3, 4);
         set(well, 1, 9, 1, 2, 3, 255);
         well.open(0, 0);
@@ -836,7 +844,7 @@ public final class PromisesTest {
     }
 
     private static void promise32() {
-        Bytewell well = new Bytewell();
+        Well well = new Well();
         set(well, 0, 1, 2, 3);
         well.open(0, 0);
         due("32: all left", well.leftShare(0), 1.0f);
@@ -853,7 +861,7 @@ public final class PromisesTest {
     }
 
     private static void promise33() {
-        Bytewell well = new Bytewell();
+        Well well = new Well();
         refused("33: none has bytes", well, NO_SHARE, well::meanSize);
         gathered(well, 0, 1);
         due("33: of one byte", well.meanSize(), 1.0);
@@ -870,7 +878,7 @@ public final class PromisesTest {
     }
 
     private static void promise34() {
-        Bytewell well = new Bytewell();
+        Well well = new Well();
         due("34: of a new one", well.checksum(), sumOf(0, 0, 0, 0, 0, 0, 0, -1, -1, -1));
         set(well, 0, 5, -6);
         set(well, 2, 7);
@@ -903,7 +911,7 @@ public final class PromisesTest {
     }
 
     private static void promise35() {
-        Bytewell well = fiveOpen();
+        Well well = fiveOpen();
         due("35: with one open", well.isTrue(), true);
         well.make(1, 5);
         well.read(0);
@@ -930,9 +938,9 @@ public final class PromisesTest {
         due("35: with all full", well.isTrue(), true);
         well.back(2);
         due("35: with all full, back", well.isTrue(), true);
-        String before = Check.stateOf(well);
+        long before = well.checksum();
         well.isTrue();
-        due("35: nothing is changed by it", Check.stateOf(well), before);
+        due("35: nothing is changed by it", well.checksum(), before);
         well.take(2, 3);
         due("35: nor what the gatherers have", well.get(3, 255), -1);
         well.empty(2);
