@@ -66,7 +66,7 @@ final class Check {
     /** All that can be asked of a well, which is used up by it. It takes some 130 calls. */
     static String allOf(Well well) {
         StringBuilder told = new StringBuilder();
-        told.append("sum ").append(well.checksum()).append(" true ").append(well.isTrue());
+        told.append("sum ").append(well.checksum());
         for (int row = 0; row < 4; row++) {
             told.append(" length ").append(well.length(row));
         }
@@ -84,7 +84,8 @@ final class Check {
                 told.append(' ').append(aheadOf(well, reader));
             }
         }
-        return told.toString();
+        // Not sooner: what isTrue() could change would be changed in both wells that are held against each other.
+        return told.append(" true ").append(well.isTrue()).toString();
     }
 
     /** What is ahead of it, then from its mark on, and which rows are its array. */

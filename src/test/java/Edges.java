@@ -86,6 +86,49 @@ abstract class Edges {
         return well;
     }
 
+    /** The well is as busy() makes it, which is told here by calls that read and take, not by those that ask. */
+    static void dueAsBusy(String what, Well well) {
+        dueThrown(what + ", reader 2", SHUT, () -> well.read(2));
+        due(what + ", reader 0", well.read(0) + " " + well.read(0) + " " + well.read(0), "4 5 -1");
+        due(what + ", reader 0 back", well.back(0) + " " + well.read(0), "4 2");
+        due(what + ", reader 1", well.read(1) + " " + well.read(1) + " " + well.read(1), "163 94 161");
+        due(what + ", reader 1 at its end", well.read(1), -1);
+        due(what + ", reader 1 back", well.back(1) + " " + well.read(1), "4 92");
+        for (int i = 0; i < 5; i++) {
+            due(what + ", row 0 at " + i, well.put(0, i, 70 + i), i + 1);
+            due(what + ", row 1 at " + i, well.put(1, i, i), 70 + i);
+        }
+        due(what + ", row 2", well.put(2, 0, 1) + " " + well.put(2, 128, 1) + " " + well.put(2, 255, 1), "-128 0 127");
+        due(what + ", made anew", well.make(0, 1) + " " + well.make(1, 1) + " " + well.make(2, 1), "5 5 256");
+        due(what + ", row 3 made anew", well.make(3, 1), 0);
+        due(what + ", gatherer 0", well.take(0, 3), 252);
+        due(what + ", its bytes", well.put(3, 0, 0) + " " + well.put(3, 251, 0), "-125 126");
+        due(what + ", gatherer 1", well.take(1, 3), 256);
+        due(what + ", its bytes", well.put(3, 0, 0) + " " + well.put(3, 255, 0), "-128 127");
+        due(what + ", gatherer 2", well.take(2, 3), 0);
+    }
+
+    /**
+     * No row is empty, and no two are the same; all readers are open, each at another place, behind its mark;
+     * gatherer 0 has five bytes, gatherer 1 is empty, gatherer 2 is full.
+     */
+    static Well crowded() {
+        Well well = whole();
+        well.writeRow(2, 2);
+        set(well, 0, 1, 2, 3, 4, 5);
+        well.writeRow(0, 0);
+        set(well, 1, -1, 10, -3);
+        set(well, 3, 99);
+        well.open(0, 0);
+        well.open(1, 1);
+        for (int reader = 0; reader < 3; reader++) {
+            well.skip(reader, reader);
+            well.mark(reader, 0);
+            well.skip(reader, 1);
+        }
+        return well;
+    }
+
     /** Row 0 is 1, 2, 3, 4, 5, and reader 0 is at its begin; the rest is as in a new well. */
     static Well five() {
         Well well = new Well();

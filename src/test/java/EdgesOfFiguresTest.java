@@ -210,6 +210,7 @@ public final class EdgesOfFiguresTest extends Edges {
         changesNothing("on an empty row", EdgesOfFiguresTest::onEmpty, true, Well::isTrue);
         changesNothing("on a full row", Edges::whole, true, Well::isTrue);
         changesNothing("with all full", () -> gathered(256, 256, 256), true, Well::isTrue);
+        changesNothing("with all rows and readers", Edges::crowded, true, Well::isTrue);
         changesNothing("with full and empty", () -> gathered(0, 256, 1), true, Well::isTrue);
         for (int many = 0; many <= 4; many++) {
             int here = many;

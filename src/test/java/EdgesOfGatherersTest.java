@@ -449,6 +449,20 @@ public final class EdgesOfGatherersTest extends Edges {
         dueRow("emptied and written anew", well, 2, 7, 10, 13);
     }
 
+    static void promise15NothingLaterChangesWhatIsTakenOfAFullOne() {
+        Well well = busy();
+        well.take(1, 3);
+        well.empty(1);
+        due("writeNumber(1, 0)", well.writeNumber(1, 0), 4);
+        due("the first one", well.get(3, 0), -128);
+        due("all of it", well.isLike(3, 2), true);
+        well.writePart(1, 2, 0, 252);
+        well.take(1, 0);
+        well.fill(0, 0, 256, 0, 0);
+        well.take(1, 0);
+        due("what is put into a taken one is not in it", well.get(0, 4), -128);
+    }
+
     static void promise15NothingThatIsTakenChangesIt() {
         Well well = gathered(3);
         well.take(0, 2);

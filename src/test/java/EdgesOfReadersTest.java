@@ -390,6 +390,13 @@ public final class EdgesOfReadersTest extends Edges {
         }
     }
 
+    static void promise29TestsReaderAndGathererBeforeWhetherItIsOpenAndBeforeTheRoom() {
+        for (int number : NO_THREES) {
+            refused("pour(2, " + number + ")", NO_SUCH, well -> well.pour(2, number));
+            refused("pour(" + number + ", 1)", NO_SUCH, well -> well.pour(number, 1));
+        }
+    }
+
     static void promise29WhatWasPouredIsNotTheRow() {
         Well well = five();
         well.pour(0, 1);
@@ -676,6 +683,26 @@ public final class EdgesOfReadersTest extends Edges {
         refused("alike(1, 2)", SHUT, well -> well.alike(1, 2));
         refused("alike(0, 1) of a new one", Well::new, SHUT, well -> well.alike(0, 1));
         refused("alike(2, 0) at the end", EdgesOfReadersTest::atEnd, SHUT, well -> well.alike(2, 0));
+    }
+
+    static void promise31WhatIsPutWhereItEndedIsReadThen() {
+        Well well = two(row(1, 2, 3), row(1, 9, 3));
+        well.alike(0, 1);
+        well.put(0, 1, 50);
+        well.put(1, 1, 60);
+        due("the next of the first", well.read(0), 50);
+        due("the next of the other", well.read(1), 60);
+        well.back(0);
+        well.back(1);
+        well.put(1, 1, 50);
+        due("on from where it ended", well.alike(0, 1), 2);
+    }
+
+    static void promise31TestsTheReadersBeforeWhetherTheyAreOpen() {
+        for (int number : NO_THREES) {
+            refused("alike(2, " + number + ")", NO_SUCH, well -> well.alike(2, number));
+            refused("alike(" + number + ", 2)", NO_SUCH, well -> well.alike(number, 2));
+        }
     }
 
     static void promise31TestsTheReadersBeforeWhetherTheyAreTheSame() {

@@ -443,6 +443,17 @@ public final class EdgesOfReadingTest extends Edges {
         }
     }
 
+    static void promise21OfAllItIsNotTheVeryArrayThatItReads() {
+        for (int many = 0; many <= 5; many++) {
+            Well well = withLeft(many, many);
+            due("readSome(0, 2, " + many + ")", well.readSome(0, 2, many), many);
+            due("the same array", areSameArray(well, 0, 2), false);
+            well.fill(2, 0, many, 99, 1);
+            well.back(0);
+            due("what is put there is not in it", well.read(0), many == 0 ? -1 : 7);
+        }
+    }
+
     static void promise21IntoTheRowThatItReadsItGoesOnWithTheFormerOne() {
         Well well = five();
         well.lend(0, 1);
@@ -628,6 +639,13 @@ public final class EdgesOfReadingTest extends Edges {
         due("from 11 on", well.readLine(0, 1), 117);
         due("its first", well.get(1, 0), 11);
         due("its last", well.get(1, 116), 127);
+        well = lines(65, 13, 10, 13, 10, 0, 138, 10);
+        due("byte 13 before it is kept", well.readLine(0, 1), 2);
+        dueRow("byte 13 before it is kept", well, 1, 65, 13);
+        due("byte 13 alone is kept", well.readLine(0, 1), 1);
+        dueRow("byte 13 alone is kept", well, 1, 13);
+        due("bytes 0 and 138 are none", well.readLine(0, 1), 2);
+        dueRow("bytes 0 and 138 are none", well, 1, 0, -118);
     }
 
     static void promise23OfAFullRow() {
@@ -658,6 +676,18 @@ public final class EdgesOfReadingTest extends Edges {
         well.readLine(0, 1);
         due("one of one byte", areSameArray(well, 1, 3), false);
         due("the former one", well.length(3), 0);
+        well = lines(10, 10);
+        well.readLine(0, 1);
+        well.readLine(0, 3);
+        due("two empty ones", areSameArray(well, 1, 3), false);
+    }
+
+    static void promise23OfAllItIsNotTheVeryArrayThatItReads() {
+        Well well = lines(65, 66, 67);
+        due("readLine(0, 1)", well.readLine(0, 1), 3);
+        due("the same array", areSameArray(well, 0, 1), false);
+        well.fill(1, 0, 3, 0, 0);
+        dueRow("what is put there is not in it", well, 0, 65, 66, 67);
     }
 
     static void promise23IntoTheRowThatItReadsItGoesOnWithTheFormerOne() {

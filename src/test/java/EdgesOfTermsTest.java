@@ -81,6 +81,36 @@ public final class EdgesOfTermsTest extends Edges {
         dueAhead("by readFull", well, 0, 7, 61, 62, 7, 7);
     }
 
+    static void terms02WhatIsPutThereRightAheadIsReadAfterEachWayOfReading() {
+        Check.Use[] ways = {
+            well -> well.read(0),
+            well -> well.readPart(0, 1, 0, 1),
+            well -> well.readFull(0, 1, 0, 1),
+            well -> well.readSome(0, 1, 1),
+            well -> well.readLine(0, 1),
+            well -> well.find(0, 10),
+            well -> well.skip(0, 1),
+            well -> well.alike(0, 1),
+            well -> well.open(0, 0),
+            well -> well.mark(0, 0),
+            well -> well.back(0),
+            well -> well.left(0),
+            well -> well.isTrue(),
+        };
+        int[] passed = {1, 1, 1, 1, 1, 1, 1, 1, 0, 0, 0, 0, 0};
+        for (int i = 0; i < ways.length; i++) {
+            Well well = new Well();
+            set(well, 0, 10, 20, 30);
+            set(well, 1, 10, 99);
+            well.open(0, 0);
+            well.open(1, 1);
+            ways[i].of(well);
+            well.put(0, passed[i], -7);
+            due("way " + i + ", the next", well.read(0), 249);
+            due("way " + i + ", left", well.left(0), 2 - passed[i]);
+        }
+    }
+
     static void terms02WhatIsPutThereAfterTheEndIsReadAfterGoingBack() {
         Well well = five();
         well.skip(0, 4);
@@ -183,6 +213,33 @@ public final class EdgesOfTermsTest extends Edges {
             due("to its mark", well.back(0), 4);
             way.of(well);
             due("to its mark again", well.back(0), 4);
+        }
+    }
+
+    // Going back brings a reader where it was marked: a call that asks marks nothing, nor changes anything else
+
+    static void terms05CallsThatAskChangeNothing() {
+        Check.Use[] asking = {
+            well -> well.length(0),
+            well -> well.get(0, 4),
+            well -> well.isLike(0, 2),
+            well -> well.isLike(0, 1),
+            well -> well.size(0),
+            well -> well.isOpen(0),
+            well -> well.isOpen(2),
+            well -> well.left(0),
+            well -> well.leftShare(0),
+            well -> well.meanSize(),
+            well -> well.checksum(),
+            well -> well.isTrue(),
+        };
+        dueAsBusy("at first", busy());
+        for (int i = 0; i < asking.length; i++) {
+            Well well = busy();
+            asking[i].of(well);
+            asking[i].of(well);
+            dueAsBusy("after call " + i, well);
+            changesNothing("call " + i, Edges::crowded, asking[i].of(crowded()), asking[i]);
         }
     }
 
@@ -293,6 +350,28 @@ public final class EdgesOfTermsTest extends Edges {
             due("call " + i + ", the same array", areSameArray(well, 0, 1), !made);
             due("call " + i + ", the reader's array", Check.outcome(() -> well.readFull(0, 1, 0, 0)),
                 "throws.IllegalArgumentException");
+        }
+    }
+
+    static void terms10EachEmptyRowIsAnotherArray() {
+        Check.Use[] making = {
+            well -> well.make(2, 0),
+            well -> well.take(0, 2),
+            well -> well.readSome(0, 2, 0),
+            well -> well.readLine(0, 2),
+        };
+        for (int i = 0; i < making.length; i++) {
+            for (int j = 0; j < making.length; j++) {
+                Well well = new Well();
+                set(well, 0, 10, 10);
+                well.open(0, 0);
+                making[i].of(well);
+                well.lend(2, 3);
+                making[j].of(well);
+                due("calls " + i + " and " + j + ", lengths", well.length(2) + well.length(3), 0);
+                due("calls " + i + " and " + j + ", the same array", areSameArray(well, 2, 3), false);
+                due("call " + j + " and a first one, the same array", areSameArray(well, 2, 1), false);
+            }
         }
     }
 
