@@ -888,9 +888,19 @@ public final class PromisesTest {
         well.read(2);
         due("34: each in its turn", well.checksum(),
             sumOf(2, 5, -6, 0, 1, 7, 0, 0, 3, 0, 1, -56, 0, -1, -1, 1));
+        set(well, 1, 70, 71, 72);
+        well.write(0, 30);
+        well.write(2, -40);
+        well.open(0, 1);
+        due("34: each in its turn, when no two are alike", well.checksum(),
+            sumOf(2, 5, -6, 3, 70, 71, 72, 1, 7, 0, 1, 30, 3, 0, 1, -56, 1, -40, 3, -1, 1));
+        well.empty(0);
+        well.empty(2);
+        well.make(1, 0);
+        well.skip(0, 3);
         well.empty(1);
         due("34: nothing of what was emptied", well.checksum(),
-            sumOf(2, 5, -6, 0, 1, 7, 0, 0, 0, 0, -1, -1, 1));
+            sumOf(2, 5, -6, 0, 1, 7, 0, 0, 0, 0, 0, -1, 1));
         well.make(3, 256);
         well.fill(3, 0, 256, 100, 3);
         long[] members = new long[270];
@@ -898,7 +908,7 @@ public final class PromisesTest {
         for (int i = 0; i < 256; i++) {
             members[7 + i] = (byte) (100 + 3 * i);
         }
-        System.arraycopy(new long[] {0, 0, 0, -1, -1, 1}, 0, members, 263, 6);
+        System.arraycopy(new long[] {0, 0, 0, 0, -1, 1}, 0, members, 263, 6);
         due("34: a long that goes round", well.checksum(), sumOf(java.util.Arrays.copyOf(members, 269)));
     }
 
